@@ -42,6 +42,9 @@ public final class FootLower {
     private static final int MOST_SEED = 2000000000;
     private static final int MOST_LUCK = 20;
 
+    private static final int LOWERED = -1;
+    private static final int RAISED = 1;
+
     private static final int CELL = 0;
     private static final int NAMES = 1;
     private static final int SUN = 2;
@@ -207,7 +210,7 @@ public final class FootLower {
             return NOT_NOW;
         }
         int cell = mountain.ground.topCell();
-        mountain.act(cell, -1);
+        mountain.act(cell, LOWERED);
         return cell;
     }
 
@@ -219,7 +222,7 @@ public final class FootLower {
         if (!mountain.hasRoomForAct() || stay == NONE) {
             return NOT_NOW;
         }
-        mountain.act(stay, 1);
+        mountain.act(stay, RAISED);
         return stay;
     }
 
@@ -248,7 +251,7 @@ public final class FootLower {
     // ---- who signs ----
 
     public int willing() {
-        return mountain.isTold() ? mountain.people.willingOn(mountain.ground) : NO_SUCH;
+        return mountain.isTold() ? mountain.people.gainersBy(mountain.ground, LOWERED) : NO_SUCH;
     }
 
     public int signers(int set) {
@@ -410,7 +413,7 @@ public final class FootLower {
     }
 
     public int raisers() {
-        return mountain.isTold() ? mountain.raisersNow() : NO_SUCH;
+        return mountain.isTold() ? mountain.people.gainersBy(mountain.ground, RAISED) : NO_SUCH;
     }
 
     // ---- old heights by shadows ----
@@ -1208,11 +1211,12 @@ public final class FootLower {
         }
 
         int gainOn(Ground ground, int folk) {
-            return gainWith(ground, folk, Integer.bitCount(ground.snowyCells()), ground.topHeight());
+            fillGains(ground, gainsAfter, 0);
+            return folk >= 0 && folk < MOST_FOLK ? gainsAfter[folk] : 0;
         }
 
         int gainsOn(Ground ground) {
-            fillGains(ground, gainsAfter);
+            fillGains(ground, gainsAfter, 0);
             int sum = 0;
             for (int f = 0; f < size && f < MOST_FOLK; f++) {
                 sum += gainsAfter[f];
@@ -1220,26 +1224,29 @@ public final class FootLower {
             return sum;
         }
 
-        /** SNOW and TOP are the same for all FOLK: they are asked once for all. */
-        private void fillGains(Ground ground, int[] gains) {
+        /** GAIN of each FOLK, put into a row from one place on. */
+        void fillGains(Ground ground, int[] gains, int from) {
             int snowy = Integer.bitCount(ground.snowyCells());
             int top = ground.topHeight();
-            for (int f = 0; f < size && f < gains.length; f++) {
-                gains[f] = gainWith(ground, f, snowy, top);
+            for (int f = 0; f < size; f++) {
+                int sun = fact(f, SUN);
+                int bySun = sun == 0 ? 0 : sun * ground.lightOf(fact(f, CELL));
+                int at = from + f;
+                if (at >= 0 && at < gains.length) {
+                    gains[at] = bySun + fact(f, SNOW) * snowy + fact(f, VIEW) * top;
+                }
             }
         }
 
-        private int gainWith(Ground ground, int folk, int snowy, int top) {
-            int sun = fact(folk, SUN);
-            int bySun = sun == 0 ? 0 : sun * ground.lightOf(fact(folk, CELL));
-            return bySun + fact(folk, SNOW) * snowy + fact(folk, VIEW) * top;
-        }
-
-        /** FOLK whose GAIN is greater when a CELL is so many FEET higher; the ground is then as it was. */
-        int gainersBy(Ground ground, int cell, int feet) {
-            fillGains(ground, gainsBefore);
+        /** FOLK whose GAIN is greater when a FOOT is taken from TOP (LOWERED) or put on it (RAISED). */
+        int gainersBy(Ground ground, int feet) {
+            int cell = ground.topCell();
+            if (ground.heightOf(cell) + feet < 0) {
+                return 0;
+            }
+            fillGains(ground, gainsBefore, 0);
             ground.change(cell, feet);
-            fillGains(ground, gainsAfter);
+            fillGains(ground, gainsAfter, 0);
             ground.change(cell, -feet);
             int bits = 0;
             for (int f = 0; f < size && f < MOST_FOLK; f++) {
@@ -1248,11 +1255,6 @@ public final class FootLower {
                 }
             }
             return bits;
-        }
-
-        int willingOn(Ground ground) {
-            int cell = ground.topCell();
-            return ground.heightOf(cell) == 0 ? 0 : gainersBy(ground, cell, -1);
         }
 
         /** Those who are sure to sign, and all whom talk brings; who is barred neither signs nor counts. */
@@ -1390,10 +1392,6 @@ public final class FootLower {
             return true;
         }
 
-        int raisersNow() {
-            return people.gainersBy(ground, ground.topCell(), 1);
-        }
-
         /** Whether names are ENOUGH, by those who are sure to sign and those who are barred. */
         boolean isEnough(int sure, int barred) {
             return people.namesOf(people.signersOf(sure, barred)) >= lawNames;
@@ -1419,12 +1417,12 @@ public final class FootLower {
         }
 
         int signersOfWon(int set) {
-            return mountain.people.signersOf(mountain.people.willingOn(mountain.ground) | set, 0);
+            return mountain.people.signersOf(mountain.people.gainersBy(mountain.ground, LOWERED) | set, 0);
         }
 
         /** The least set of the fewest FOLK by whom it is ENOUGH. */
         int fewestSet() {
-            int sure = mountain.people.willingOn(mountain.ground);
+            int sure = mountain.people.gainersBy(mountain.ground, LOWERED);
             int found = NONE;
             int fewest = MOST_FOLK + 1;
             for (int set = 0; set < 1 << mountain.people.size; set++) {
@@ -1438,7 +1436,7 @@ public final class FootLower {
         }
 
         int bestBeside(int set) {
-            int sure = mountain.people.willingOn(mountain.ground) | set;
+            int sure = mountain.people.gainersBy(mountain.ground, LOWERED) | set;
             int found = NONE;
             int most = mountain.people.namesOf(mountain.people.signersOf(sure, 0));
             for (int f = 0; f < mountain.people.size; f++) {
@@ -1452,7 +1450,7 @@ public final class FootLower {
         }
 
         int neededFolk() {
-            int sure = mountain.people.willingOn(mountain.ground);
+            int sure = mountain.people.gainersBy(mountain.ground, LOWERED);
             if (!mountain.isEnough(sure, 0)) {
                 return 0;
             }
@@ -1486,7 +1484,7 @@ public final class FootLower {
         }
 
         private void begin(int each, int who) {
-            willing = mountain.people.willingOn(mountain.ground);
+            willing = mountain.people.gainersBy(mountain.ground, LOWERED);
             turns = 2 * each;
             starter = who;
             for (int i = 0; i < outcomes.length; i++) {
@@ -1555,7 +1553,7 @@ public final class FootLower {
         }
 
         private void gatherNames() {
-            int willing = mountain.people.willingOn(mountain.ground);
+            int willing = mountain.people.gainersBy(mountain.ground, LOWERED);
             for (int c = 0; c < MOST_CELLS; c++) {
                 int here = 0;
                 for (int f = 0; f < mountain.people.size; f++) {
@@ -1652,17 +1650,8 @@ public final class FootLower {
             for (int c = 0; c < trial.cells; c++) {
                 if (trial.heightOf(c) > 0) {
                     trial.change(c, -1);
-                    weighCell(c);
+                    mountain.people.fillGains(trial, weights, c * MOST_FOLK);
                     trial.change(c, 1);
-                }
-            }
-        }
-
-        private void weighCell(int cell) {
-            for (int f = 0; f < mountain.people.size; f++) {
-                int at = cell * MOST_FOLK + f;
-                if (at >= 0 && at < weights.length) {
-                    weights[at] = mountain.people.gainOn(trial, f);
                 }
             }
         }
@@ -1805,7 +1794,7 @@ public final class FootLower {
         }
 
         private int namesOnTrial() {
-            return mountain.people.namesOf(mountain.people.signersOf(mountain.people.willingOn(trial), 0));
+            return mountain.people.namesOf(mountain.people.signersOf(mountain.people.gainersBy(trial, LOWERED), 0));
         }
 
         /** FEET of a COURSE; the trial ground is then as it ends. */
@@ -1842,14 +1831,14 @@ public final class FootLower {
             }
             long x = seed;
             int feet = 0;
-            int willing = mountain.people.willingOn(trial);
+            int willing = mountain.people.gainersBy(trial, LOWERED);
             for (int month = 0; month < months; month++) {
                 x = FACTOR * x + ADDEND & MASK;
                 int won = 1 << (int) (x / 65536 % folk);
                 if (mountain.isEnough(willing | won, 0) && trial.lower()) {
                     feet++;
                     trial.change(trial.stayOf(mountain.heapCell), 1);
-                    willing = mountain.people.willingOn(trial);
+                    willing = mountain.people.gainersBy(trial, LOWERED);
                 }
             }
             return feet;
