@@ -28,6 +28,7 @@ public final class FootLower {
     private static final int HOURS = 9;
     private static final int MOST_ACTS = 60;
     private static final int MOST_BYTES = 900;
+    private static final int FED_BYTES = 20;
     private static final int IMAGES = 3;
     private static final int SLOTS = 4;
     private static final int WIDTHS = 4;
@@ -108,7 +109,7 @@ public final class FootLower {
     // ---- the text ----
 
     public int feed(int a, int b, int c, int d, int e) {
-        if (!tape.hasRoomFor(20)) {
+        if (!tape.hasRoomFor(FED_BYTES)) {
             return NONE;
         }
         tape.addNumber(a);
@@ -1400,7 +1401,7 @@ public final class FootLower {
 
     /** Whom to win: first, next, without whom it fails, and in a PLAY against one who bars. */
     private static final class Petition {
-        private static final int[] THREES = {1, 3, 9, 27, 81, 243, 729, 2187, 6561};
+        private static final int[] THREES = {1, 3, 9, 27, 81, 243, 729, 2187};
         private static final int UNKNOWN = 0;
         private static final int ENOUGH = 1;
         private static final int TOO_FEW = 2;
@@ -1465,7 +1466,7 @@ public final class FootLower {
 
         boolean playOut(int each, int who) {
             begin(each, who);
-            return comesOut(0, 0, 0);
+            return comesOut(0, 0, 0, 0);
         }
 
         /** The least FOLK by which the one who begins has what he wants, or else the least of all. */
@@ -1476,7 +1477,7 @@ public final class FootLower {
             begin(each, who);
             boolean wanted = who == 0;
             for (int f = 0; f < mountain.people.size; f++) {
-                if (comesOutBy(f, 0, 0, 0) == wanted) {
+                if (comesOutBy(f, 0, 0, 0, 0) == wanted) {
                     return f;
                 }
             }
@@ -1497,46 +1498,35 @@ public final class FootLower {
         }
 
         /** Whether it is ENOUGH in the end; so many have moved, of turns that are eight at most. */
-        private boolean comesOut(int won, int barred, int moved) {
-            int taken = won | barred;
-            if (moved >= turns || moved >= MOST_FOLK || taken == (1 << mountain.people.size) - 1) {
+        private boolean comesOut(int won, int barred, int moved, int key) {
+            boolean allMoved = (won | barred) == (1 << mountain.people.size) - 1;
+            if (allMoved || moved >= turns || key < 0 || key >= outcomes.length) {
                 return mountain.isEnough(willing | won, barred);
-            }
-            int key = keyOf(won, barred);
-            if (key < 0 || key >= outcomes.length) {
-                return false;
             }
             if (outcomes[key] == UNKNOWN) {
                 boolean wanted = winsNow(moved);
-                boolean enough = canReach(wanted, won, barred, moved) == wanted;
+                boolean enough = canReach(wanted, won, barred, moved, key) == wanted;
                 outcomes[key] = (byte) (enough ? ENOUGH : TOO_FEW);
             }
             return outcomes[key] == ENOUGH;
         }
 
         /** Whether the one whose turn it is has a move by which it comes out as he wants. */
-        private boolean canReach(boolean wanted, int won, int barred, int moved) {
+        private boolean canReach(boolean wanted, int won, int barred, int moved, int key) {
             for (int f = 0; f < mountain.people.size; f++) {
-                if (((won | barred) >> f & 1) == 0 && comesOutBy(f, won, barred, moved) == wanted) {
+                if (((won | barred) >> f & 1) == 0 && comesOutBy(f, won, barred, moved, key) == wanted) {
                     return true;
                 }
             }
             return false;
         }
 
-        private boolean comesOutBy(int folk, int won, int barred, int moved) {
+        private boolean comesOutBy(int folk, int won, int barred, int moved, int key) {
+            int digit = folk >= 0 && folk < THREES.length ? THREES[folk] : 0;
             if (winsNow(moved)) {
-                return comesOut(won | 1 << folk, barred, moved + 1);
+                return comesOut(won | 1 << folk, barred, moved + 1, key + digit);
             }
-            return comesOut(won, barred | 1 << folk, moved + 1);
-        }
-
-        private static int keyOf(int won, int barred) {
-            int key = 0;
-            for (int f = 0; f < MOST_FOLK; f++) {
-                key += THREES[f] * ((won >> f & 1) + 2 * (barred >> f & 1));
-            }
-            return key;
+            return comesOut(won, barred | 1 << folk, moved + 1, key + 2 * digit);
         }
     }
 

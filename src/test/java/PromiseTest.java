@@ -194,6 +194,9 @@ public final class PromiseTest {
         due(4, "top(): there is none", x.top(), -2);
         due(4, "count(6)", x.count(6), 0);
         due(4, "count(8)", x.count(8), 0);
+        for (int what = 0; what <= 8; what++) {
+            due(4, "count(" + what + ") without a MOUNTAIN", x.count(what), 0);
+        }
         due(4, "mount() without blanks", mount(x, "mount1 2 3snow1rest1names1first;heap2;folk at0names1sun1snow1view1;"), 3);
         due(4, "numbers with noughts ahead", mount(x, "mount 0001 2 3 snow 040 rest 01 names 0999 last;"), 1);
         due(4, "count(4)", x.count(4), 999);
@@ -218,6 +221,19 @@ public final class PromiseTest {
         due(5, "fault(-1)", x.fault(-1), -1);
     }
 
+    /** No word may have another letter, one less, or one more. */
+    private static void strayWords(String text) {
+        fault(text, 0, -1);
+        java.util.regex.Matcher word = java.util.regex.Pattern.compile("[a-z]+").matcher(text);
+        while (word.find()) {
+            int last = word.end() - 1;
+            fault(text.substring(0, word.start()) + "x" + text.substring(word.start() + 1), 1, word.start());
+            fault(text.substring(0, last) + "x" + text.substring(last + 1), 1, word.start());
+            fault(text.substring(0, last) + text.substring(last + 1), 1, word.start());
+            fault(text.substring(0, last) + "x" + text.substring(last), 1, word.start());
+        }
+    }
+
     private static void faults() {
         String head = "mount 0 1 2 snow 1 rest 1 names 1 last;";
         String folk = "folk at 0 names 1 sun 1 snow 1 view 1";
@@ -234,6 +250,10 @@ public final class PromiseTest {
         fault("heap 0;", 1, 0);
         fault("mountain 1 2 3", 1, 0);
         fault("7", 1, 0);
+        fault("mounta 1 2 3", 1, 0);
+        fault("mountz 1 2 3", 1, 0);
+        strayWords(head + folk + ";" + folk + " talk 1 with 0;heap 0;");
+        strayWords(head.replace("last", "first"));
         fault("mount 1 2 snow 1", 1, 10);
         fault("mount snow", 1, 6);
         fault("mount 1;", 1, 7);
@@ -302,6 +322,15 @@ public final class PromiseTest {
         FootLower x = new FootLower();
         mount(x, "mount 1;");
         due(5, "fault(0)", x.fault(0), 1);
+        // What was cut off is not there: "firs", though a t came behind it.
+        feed(x, head.replace("last", "first"));
+        x.end(38);
+        due(5, "mount() of a text cut off", x.mount(), -4);
+        due(5, "fault(1) of a text cut off", x.fault(1), 34);
+        feed(x, head.replace("names 1", "names 12"));
+        x.end(33);
+        x.mount();
+        due(5, "fault(1) of a text cut off", x.fault(1), 33);
         mount(x, head);
         due(5, "fault(0) of the latest mount()", x.fault(0), 0);
         due(5, "fault(1) of the latest mount()", x.fault(1), -1);
@@ -533,6 +562,11 @@ public final class PromiseTest {
         due(26, "firsts() of all", f.firsts(), 15);
         f.tell(17);
         due(25, "first() of too few", f.first(), -1);
+        FootLower eight = on("mount 1 1 1 snow 40 rest 1 names 8 first;" + silent(1).repeat(8));
+        due(25, "first() of eight", eight.first(), 8);
+        due(26, "firsts() of eight", eight.firsts(), 255);
+        eight.tell(7);
+        due(26, "firsts() of seven", eight.firsts(), 127);
     }
 
     private static String silent(int names) {
@@ -577,6 +611,23 @@ public final class PromiseTest {
         due(29, "play(3, 0), law 11", f.play(3, 0), 0);
         FootLower none = on(bare("1 2 3", 1, "first"));
         due(29, "play(2, 0) without FOLK", none.play(2, 0), 0);
+        // Names 4 99 1 64 2 16 32 8: by turns 99 64 32 16 8 4 2 1 go.
+        FootLower e = on("mount 1 1 1 snow 40 rest 1 names 141 first;" + silent(4) + silent(99) + silent(1) + silent(64) + silent(2)
+            + silent(16) + silent(32) + silent(8));
+        due(29, "play(4, 0): 99 32 8 2", e.play(4, 0), 1);
+        due(30, "moves(4, 0)", e.moves(4, 0), 1);
+        e.tell(142);
+        due(29, "play(4, 0), law 142", e.play(4, 0), 0);
+        due(30, "moves(4, 0): by none, the least", e.moves(4, 0), 0);
+        e.tell(85);
+        due(29, "play(4, 1): 64 16 4 1", e.play(4, 1), 1);
+        e.tell(86);
+        due(29, "play(4, 1), law 86", e.play(4, 1), 0);
+        due(30, "moves(4, 1)", e.moves(4, 1), 1);
+        e.tell(139);
+        due(29, "play(3, 0): 99 32 8", e.play(3, 0), 1);
+        e.tell(140);
+        due(29, "play(3, 0), law 140", e.play(3, 0), 0);
         due(30, "moves(2, 0) without FOLK", none.moves(2, 0), -1);
         // One who is barred is not counted by talk: 1 needs 0.
         FootLower b = on("mount 0 9 0 snow 40 rest 1 names 7 first;" + sunny(0)
@@ -593,7 +644,7 @@ public final class PromiseTest {
     private static void rounds() {
         FootLower x = on(WALK);
         due(22, "willing()", x.willing(), 15);
-        int[][] ways = {{4, 3, 2, 2, 4}, {4, 4, 2, 4, 6}, {4, 7, 4, 0, 4}, {4, 9, 4, 4, 8}, {4, 11, 8, 0, 6}, {4, 18, 12, 0, 8},
+        int[][] ways = {{0, 1, 0, 0, 0}, {1, 1, 1, 0, 1}, {4, 3, 2, 2, 4}, {4, 4, 2, 4, 6}, {4, 7, 4, 0, 4}, {4, 9, 4, 4, 8}, {4, 11, 8, 0, 6}, {4, 18, 12, 0, 8},
             {4, 19, -1, -1, -1}, {0, 18, 8, 0, 8}, {8, 6, 0, 8, 8}, {8, 18, 8, 0, 8}, {3, 8, 3, 0, 3}, {4, 800, -1, -1, -1}};
         for (int[] w : ways) {
             due(31, "round(" + w[0] + ", " + w[1] + ")", x.round(w[0], w[1]), w[2]);
@@ -642,6 +693,8 @@ public final class PromiseTest {
         due(34, "flows(2)", hill.flows(2), 3);
         due(34, "flows(1), the lower one", on(bare("2 5 1", 1, "first")).flows(1), 2);
         due(36, "cliffs(), more than rest apart", on(bare("0 2 5 2", 2, "first")).cliffs(), 2);
+        due(36, "cliffs(), more than rest apart", on(bare("5 3 0", 2, "first")).cliffs(), 1);
+        due(37, "springs() without CELL 0", on(bare("2 1 3", 1, "first")).springs(), 2);
     }
 
     private static void sight() {
@@ -656,6 +709,10 @@ public final class PromiseTest {
         due(38, "sees(2) along the line", on(bare("0 1 2", 1, "first")).sees(2), 7);
         due(38, "sees(0) by half a foot", on(bare("0 2 3", 1, "first")).sees(0), 3);
         due(38, "sees(0) below the line", on(bare("0 1 3", 1, "first")).sees(0), 7);
+        due(38, "sees(1)", on(bare("9 0 1 2", 1, "first")).sees(1), 15);
+        due(38, "sees(3)", on(bare("9 0 1 2", 1, "first")).sees(3), 15);
+        due(38, "sees(1)", on(bare("0 3 5 6 0", 1, "first")).sees(1), 7);
+        due(38, "sees(4)", on(bare("0 3 5 6 0", 1, "first")).sees(4), 24);
         due(39, "lookout()", x.lookout(), 1);
         due(39, "lookout(), the first of several", on(bare("2 2 2", 1, "last")).lookout(), 0);
         due(39, "lookout()", on(bare("0 5 3 9 0", 1, "first")).lookout(), 1);
@@ -680,10 +737,14 @@ public final class PromiseTest {
         due(41, "elected() of a ring", ring.elected(), -1);
         due(41, "elected() of noughts", on(bare("0 0 0", 1, "first")).elected(), -1);
         due(41, "elected() without FOLK, above 0", on(bare("0 3 3", 1, "last")).elected(), 1);
+        due(41, "elected() without FOLK, the first", on(bare("1 1 1", 1, "last")).elected(), 0);
         due(41, "elected() of one above 0", on(bare("0 0 3", 1, "last") + sunny(2)).elected(), 2);
         due(42, "best()", x.best(), 1);
         due(42, "best() of noughts", on(bare("0 0 0", 1, "first")).best(), -1);
         due(42, "best() without FOLK, the first above 0", on(bare("0 3 3", 1, "last")).best(), 1);
+        due(42, "best() of one FOOT", on(bare("0 0 1", 1, "first")).best(), 2);
+        // A FOOT from CELL 0 would cost its snow; CELL 2 can spare one, but not two.
+        due(42, "best()", on("mount 4 0 5 snow 4 rest 1 names 1 first;" + sunny(1) + "folk at 0 names 1 sun 0 snow 9 view 0;").best(), 2);
         // From CELL 0: 16, 27, 10; from 1: 14, 28, 10; from 2: 17, 27, 9.
         due(42, "best(), the first of several", ring.best(), 0);
         due(42, "height(1), nothing is taken", x.height(1), 9);
@@ -758,6 +819,9 @@ public final class PromiseTest {
         due(49, "law(1) without FOLK", on(bare("1 2 3", 1, "first")).law(1), -1);
         due(47, "ends(1) of noughts", on(bare("0 0 0", 1, "first")).ends(1), 0);
         FootLower far = on(LONG);
+        int endsAt = far.ends(1);
+        int leftThen = far.left(1, 0);
+        due(46, "count(8) behind a COURSE", far.count(8), 0);
         due(46, "course(1), 60 at most", far.course(1), 60);
         due(49, "law(60)", far.law(60) > 0 ? 1 : 0, 1);
         due(46, "course by law(60)", far.course(far.law(60)), 60);
@@ -765,6 +829,11 @@ public final class PromiseTest {
             far.take();
         }
         due(46, "course(1) from there on", far.course(1), 60);
+        for (int i = 8; i < 60; i++) {
+            far.take();
+        }
+        due(47, "ends(1), as 60 FEET taken", far.height(far.top()), endsAt);
+        due(48, "left(1, 0), as 60 FEET taken", far.gain(0), leftThen);
         due(50, "raisers()", x.raisers(), 2);
         due(50, "raisers() by snow", on("mount 1 2 3 snow 4 rest 1 names 1 first;folk at 0 names 1 sun 0 snow 1 view 0;").raisers(), 1);
         due(50, "raisers() without FOLK", on(bare("1 2 3", 1, "first")).raisers(), 0);
@@ -810,6 +879,22 @@ public final class PromiseTest {
         x.row(3, 0, 0);
         due(51, "old(3) of an empty row", x.old(3), ALL_OLD);
         due(54, "doubts(3) of an empty row", x.doubts(3), 0);
+        // (1, 1, 1) never holds; the other holds for k 0 alone, then for 20 alone.
+        tellRow(x, 3, 0, 0, -6, 0, 1, 1, 1);
+        due(54, "doubts(3) by k 0", x.doubts(3), 1);
+        FootLower far = on(bare("0 0 0 0 0 0 0 0 0 8", 1, "first"));
+        tellRow(far, 3, 0, 9, 1, 1, 0, -3, 1);
+        due(54, "doubts(3) by k 20", far.doubts(3), 1);
+        tellRow(far, 3, 0, 0, -3, 1);
+        due(51, "old(3): 20 alone", far.old(3), 1 << 20);
+        tellRow(far, 3, 0, 8, -9, 1, 8, 9, 0);
+        due(51, "old(3) of HOURS -9 and 9: 2 FEET more at least", far.old(3), ALL_OLD - 3);
+        FootLower near = on(bare("1 0 0", 1, "first"));
+        tellRow(near, 0, 0, 1, 2, 0);
+        due(52, "ask(0, 1): HOUR 1", near.ask(0, 1), 1);
+        FootLower right = on(bare("0 0 1", 1, "first"));
+        tellRow(right, 0, 0, 1, -2, 0);
+        due(52, "ask(0, 1): HOUR -1", right.ask(0, 1), 10);
         due(53, "height(1), nothing is put", x.height(1), 9);
         // The CELL of TOP as it is now: CELL 1 is 8 high then, so that it is one FOOT more.
         x.take();
@@ -911,6 +996,7 @@ public final class PromiseTest {
         due(57, "drawn(0, 1, 1) heaped elsewhere: 1 1 2, then on CELL 1", on(MONTHS + "heap 1;").drawn(0, 2, 1), 2);
         // From 9 to 8, and the FOOT slides from CELL 3 nowhere: 3 8 4 1; all the while 26 names sign.
         FootLower r = on(RIDGE);
+        due(57, "drawn(0, 9, 0) of one FOLK", on("mount 1 1 9 snow 40 rest 40 names 3 first;" + silent(3)).drawn(0, 5, 0), 5);
         due(57, "drawn(7, 1, 0)", r.drawn(7, 1, 0), 1);
         due(57, "drawn(7, 1, 1)", r.drawn(7, 1, 1), 8);
         due(57, "drawn(7, 1, 2): 45, 8, 18", r.drawn(7, 1, 2), 71);
