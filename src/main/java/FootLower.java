@@ -25,6 +25,7 @@ public final class FootLower {
     private static final int MOST_TALK = 7;
     private static final int MOST_LIKED = 9;
     private static final int MOST_LAW = 999;
+    private static final int MOST_ROLL_NAME = 999;
     private static final int HOURS = 9;
     private static final int MOST_ACTS = 60;
     private static final int MOST_BYTES = 900;
@@ -1297,7 +1298,7 @@ public final class FootLower {
             for (int i = 0; i < numbers; i += 2) {
                 long folk = slots.numberAt(slot, i);
                 long name = slots.numberAt(slot, i + 1);
-                if (folk < 0 || folk >= size || name < 0 || name > MOST_LAW) {
+                if (folk < 0 || folk >= size || name < 0 || name > MOST_ROLL_NAME) {
                     return false;
                 }
             }
