@@ -1,3 +1,4 @@
+import java.lang.reflect.Array;
 import java.lang.reflect.Constructor;
 import java.lang.reflect.Field;
 import java.lang.reflect.Method;
@@ -7,6 +8,8 @@ import java.nio.file.Files;
 import java.nio.file.Path;
 import java.util.ArrayList;
 import java.util.Arrays;
+import java.util.Collections;
+import java.util.IdentityHashMap;
 import java.util.List;
 import java.util.Set;
 import java.util.TreeSet;
@@ -43,6 +46,7 @@ public final class FaceTest {
         String source = Files.readString(Path.of("src/main/java/FootLower.java"), StandardCharsets.UTF_8);
         source(plain(source), source);
         neverThrows();
+        room();
         System.out.println(wrong == 0 ? "the face and the source are as they must be" : wrong + " things are not as they must be");
         if (wrong != 0) {
             System.exit(1);
@@ -186,6 +190,35 @@ public final class FaceTest {
             rough(x, FootLower.class.getMethod("end", int.class), new Object[1], 0, many);
             must(x.mount() <= 0, "mount() answers");
         }
+    }
+
+    /** A run's room: calls make nothing, so that 512 new objects are the most that a run could make. */
+    private static void room() throws Exception {
+        Set<Object> seen = Collections.newSetFromMap(new IdentityHashMap<>());
+        long elements = weigh(new FootLower(), seen);
+        must(seen.size() * 512L <= 600000, "512 objects have " + seen.size() * 512L + " objects and arrays");
+        must(elements * 512 <= 7300000, "512 objects have " + elements * 512 + " fields and elements");
+    }
+
+    private static long weigh(Object held, Set<Object> seen) throws Exception {
+        if (held == null || !seen.add(held)) {
+            return 0;
+        }
+        long elements = 0;
+        if (held.getClass().isArray()) {
+            elements = Array.getLength(held);
+            for (int i = 0; i < Array.getLength(held) && !held.getClass().getComponentType().isPrimitive(); i++) {
+                elements += weigh(Array.get(held, i), seen);
+            }
+            return elements;
+        }
+        for (Field f : held.getClass().getDeclaredFields()) {
+            if (!Modifier.isStatic(f.getModifiers())) {
+                f.setAccessible(true);
+                elements += 1 + (f.getType().isPrimitive() ? 0 : weigh(f.get(held), seen));
+            }
+        }
+        return elements;
     }
 
     private static void rough(FootLower x, Method m, Object[] given, int at, int[] numbers) {
