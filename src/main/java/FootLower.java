@@ -471,7 +471,7 @@ public final class FootLower {
         if (!isDraw(seed, n) || what < 0 || what > 2) {
             return NO_SUCH;
         }
-        int feet = future.drawMonths(seed, n);
+        int feet = future.drawMonths(seed, n, MOST_MONTHS);
         if (what == 0) {
             return feet;
         }
@@ -484,7 +484,7 @@ public final class FootLower {
         }
         int lucky = 0;
         for (int i = 0; i < m; i++) {
-            if (future.drawMonths(seed + i, n) > 0) {
+            if (future.drawMonths(seed + i, n, 1) > 0) {
                 lucky++;
             }
         }
@@ -1813,8 +1813,8 @@ public final class FootLower {
             return least;
         }
 
-        /** FEET taken in MONTHS drawn; the trial ground is then as they end. */
-        int drawMonths(int seed, int months) {
+        /** FEET taken in MONTHS drawn, up to so many FEET; the trial ground is then as they end. */
+        int drawMonths(int seed, int months, int most) {
             trial.copyFrom(mountain.ground);
             int folk = mountain.people.size;
             if (folk < 1) {
@@ -1823,7 +1823,7 @@ public final class FootLower {
             long x = seed;
             int feet = 0;
             int willing = mountain.people.gainersBy(trial, LOWERED);
-            for (int month = 0; month < months; month++) {
+            for (int month = 0; month < months && feet < most; month++) {
                 x = FACTOR * x + ADDEND & MASK;
                 int won = 1 << (int) (x / 65536 % folk);
                 if (mountain.isEnough(willing | won, 0) && trial.lower()) {
